@@ -141,6 +141,21 @@ public final class FramesTest {
         }
         shownIs(x, 6, 0, 0);
 
+        Castdesk z = twoFights();
+        z.rank(2, 9);
+        z.blow(0, 0, 1);
+        z.pass(7);
+        for (int frame = 0; frame < 7; frame++) {
+            shownIs(z, frame, frame >= 1 && frame <= 5 ? 0 : 1, 0);
+        }
+
+        // The heat of a frame is 10: like that of ranks of 10, of which the one that was shown goes on.
+        Castdesk w = twoFights();
+        w.rank(0, 10);
+        w.blow(1, 2, 1);
+        w.pass(2);
+        shownIs(w, 1, 0, 0);
+
         Castdesk y = twoFights();
         y.rank(0, 49);
         for (int i = 0; i < 5; i++) {
@@ -205,6 +220,15 @@ public final class FramesTest {
         x.end(0);
         x.pass(1);
         shownIs(x, 4, 1, 0);
+
+        // Frame 0 is ahead of frame 1 as others are.
+        Castdesk y = twoFights();
+        y.rank(2, 1);
+        y.pass(1);
+        y.rank(2, 0);
+        y.pass(1);
+        shownIs(y, 0, 1, 0);
+        shownIs(y, 1, 1, 0);
     }
 
     private static void nothingShown() {

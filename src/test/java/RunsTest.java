@@ -102,7 +102,8 @@ public final class RunsTest {
         try {
             return "" + (isDue ? plain.call(name, a[0], a[1], a[2]) : call(name, a[0], a[1], a[2]));
         } catch (RuntimeException e) {
-            return "throws." + e.getClass().getSimpleName();
+            String machine = isDue || Check.thrownByCastdesk(e) ? "" : " by the machine";
+            return "throws." + e.getClass().getSimpleName() + machine;
         }
     }
 
