@@ -77,7 +77,7 @@ final class Check {
         StackTraceElement[] trace = new Throwable().getStackTrace();
         String place = "";
         for (int i = 0; i < trace.length && place.isEmpty(); i++) {
-            if (!trace[i].getClassName().equals("Check")) {
+            if (!trace[i].getClassName().equals("Check") && !trace[i].getClassName().equals("Script")) {
                 place = " (" + trace[i].getFileName() + ":" + trace[i].getLineNumber() + ")";
             }
         }

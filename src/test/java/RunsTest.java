@@ -10,7 +10,7 @@ public final class RunsTest {
         Integer.MAX_VALUE, Integer.MIN_VALUE};
 
     private final Random random;
-    private final Castdesk desk = new Castdesk();
+    private final Caller desk = new Caller();
     private final PlainDesk plain = new PlainDesk();
     private final int longestPass;
     private final int staminas;
@@ -35,7 +35,7 @@ public final class RunsTest {
 
     private void run(int seed) {
         int asked = 20 + random.nextInt(60);
-        for (int i = 0; i < 512; i++) {
+        for (int i = 0; i < Caller.MOST_CALLS; i++) {
             String name = random.nextInt(100) < asked ? one(ASKED) : one(TOLD);
             int[] a = arguments(name);
             String due = answer(true, name, a);
@@ -99,40 +99,13 @@ public final class RunsTest {
     }
 
     private String answer(boolean isDue, String name, int[] a) {
-        try {
-            return "" + (isDue ? plain.call(name, a[0], a[1], a[2]) : call(name, a[0], a[1], a[2]));
-        } catch (RuntimeException e) {
-            String machine = isDue || Check.thrownByCastdesk(e) ? "" : " by the machine";
-            return "throws." + e.getClass().getSimpleName() + machine;
+        if (!isDue) {
+            return desk.answer(name, a);
         }
-    }
-
-    private int call(String name, int a, int b, int c) {
-        switch (name) {
-            case "rank": return desk.rank(a, b);
-            case "fight": return desk.fight(a, b);
-            case "end": return desk.end(a);
-            case "replay": return desk.replay(a);
-            case "camera": return desk.camera(a, b);
-            case "delay": return desk.delay(a);
-            case "pass": return desk.pass(a);
-            case "blow": return desk.blow(a, b, c);
-            case "strike": return desk.strike(a);
-            case "mend": return desk.mend(a, b);
-            case "promise": return desk.promise(a, b);
-            case "slot": return desk.slot(a, b);
-            case "frame": return desk.frame();
-            case "shown": return desk.shown(a, b);
-            case "seen": return desk.seen();
-            case "points": return desk.points(a, b);
-            case "overlay": return desk.overlay(a, b);
-            case "fightOf": return desk.fightOf(a, b);
-            case "cameraOf": return desk.cameraOf(a, b);
-            case "counted": return desk.counted(a);
-            case "countedAnew": return desk.countedAnew(a);
-            case "owed": return desk.owed(a);
-            case "leader": return desk.leader(a);
-            default: throw new AssertionError(name);
+        try {
+            return "" + plain.call(name, a[0], a[1], a[2]);
+        } catch (RuntimeException e) {
+            return Caller.thrown(e);
         }
     }
 }
