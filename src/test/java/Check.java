@@ -1,3 +1,7 @@
+import java.io.IOException;
+import java.nio.file.Files;
+import java.nio.file.Path;
+
 /** Compares answers with those that are due, and ends the program with exit code 1 if one was wrong. */
 final class Check {
     interface Call {
@@ -69,6 +73,15 @@ final class Check {
             if (e.getClass() != due || !thrownByCastdesk(e)) {
                 tell("threw " + e + ", due is " + due.getSimpleName());
             }
+        }
+    }
+
+    static String read(Path file) {
+        try {
+            return Files.readString(file);
+        } catch (IOException e) {
+            tell("cannot read " + file + ": " + e);
+            return "";
         }
     }
 

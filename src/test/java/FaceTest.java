@@ -1,10 +1,8 @@
-import java.io.IOException;
 import java.lang.reflect.Constructor;
 import java.lang.reflect.Field;
 import java.lang.reflect.Member;
 import java.lang.reflect.Method;
 import java.lang.reflect.Modifier;
-import java.nio.file.Files;
 import java.nio.file.Path;
 import java.util.ArrayList;
 import java.util.Arrays;
@@ -103,7 +101,7 @@ public final class FaceTest {
     }
 
     private static void source() {
-        String source = read();
+        String source = Check.read(SOURCE);
         for (String word : new String[] {"->", "::", "synchronized", "assert ", "finally", "instanceof", "catch",
             "System.", "Exact(", "import java.io", "Random", "Thread", "package "}) {
             Check.due("the source holds '" + word + "'", -1, source.indexOf(word));
@@ -124,15 +122,6 @@ public final class FaceTest {
         Check.due("twenty fields at most", 1, fields <= 20 ? 1 : 0);
         for (Method method : Castdesk.class.getDeclaredMethods()) {
             Check.due(method.getName() + "'s parameters", 1, method.getParameterCount() <= 7 ? 1 : 0);
-        }
-    }
-
-    private static String read() {
-        try {
-            return Files.readString(SOURCE);
-        } catch (IOException e) {
-            Check.tell("cannot read " + SOURCE + ": " + e);
-            return "";
         }
     }
 }
